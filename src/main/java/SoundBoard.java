@@ -675,9 +675,13 @@ public final class SoundBoard {
 
         /** The sum of a row's samples, each times its number and 1. */
         long rowSum(int look, int i) {
+            int start = placeOf(look, i, 0);
+            if (start < 0 || start + SAMPLES > samples.length) {
+                return 0;
+            }
             long total = 0;
             for (int s = 0; s < SAMPLES; s++) {
-                total += (s + 1L) * at(look, i, s);
+                total += (s + 1L) * samples[start + s];
             }
             return total;
         }

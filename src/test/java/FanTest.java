@@ -10,6 +10,7 @@ public final class FanTest {
         promise22Corners();
         promise22Shares();
         promise22CutTowardNothing();
+        promise22Loudest();
         promise22Beyond();
         promise22Bad();
         Check.end("FanTest");
@@ -158,6 +159,9 @@ public final class FanTest {
         b.fan(0, 5, 9, 7);
         Check.due("step 7, x 2", b.board(12, 12, 5, 6, 8), shared(b, 2, 6, 5, 11));
         Check.due("step 7, x -7", b.board(12, 12, 5, 4, 8), shared(b, 0, 10, 5, 11));
+        // Step 3: u 7 of 12 is x 4, v 11 is z 33; k' is 33, a' is 32 + 15.
+        b.fan(0, 5, 9, 16);
+        Check.due("nearly on the next line", b.board(12, 12, 3, 7, 11), shared(b, 2, 15, 2, 1));
         int whole = 0;
         for (int a = 0; a < 5; a++) {
             for (int k = 0; k < 9; k++) {
@@ -190,6 +194,19 @@ public final class FanTest {
         }
     }
 
+    private static void promise22Loudest() {
+        SoundBoard b = new SoundBoard();
+        b.probe(2, 0, 1);
+        for (int n = 0; n < 8; n++) {
+            b.point(0, 100, 100, 0, 0);
+        }
+        b.look(0);
+        b.fan(0, 3, 3, 100);
+        Check.due("eight as loud as may be", b.fanAt(1, 1), 1600);
+        Check.due("all of it", b.board(3, 3, 100, 1, 1), 1600);
+        Check.due("half of it", b.board(3, 3, 50, 1, 1), 800);
+    }
+
     private static void promise22Beyond() {
         SoundBoard b = loud();
         b.fan(0, 2, 2, 20);
@@ -198,6 +215,12 @@ public final class FanTest {
         Check.due("k' is cut: 16 and a bit is 16", b.board(3, 3, 21, 1, 1), b.fanAt(0, 1));
         Check.due("beyond the last mean", b.board(3, 3, 22, 1, 1), 0);
         Check.due("left of the first line", b.board(3, 3, 20, 0, 1), 0);
+        Check.due("z 0 is on the first line of two", b.board(3, 3, 20, 0, 0), b.fanAt(0, 0));
+        Check.holds("which is heard", b.fanAt(0, 0) != 0);
+        // Step 5: x 2 at z 15 is 17 sixteenths to the right.
+        b.fan(0, 2, 4, 5);
+        Check.holds("the last line is heard", b.fanAt(1, 3) != 0);
+        Check.due("a sixteenth beyond the last line", b.board(12, 12, 5, 6, 3), 0);
         Check.due("far to the right", b.board(12, 12, 500, 11, 1), 0);
         Check.due("far below", b.board(12, 12, 500, 6, 11), 0);
     }

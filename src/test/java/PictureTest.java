@@ -12,6 +12,7 @@ public final class PictureTest {
         promise18Differ();
         promise18DifferInAFullRing();
         promise19Turn();
+        promise19OddTurn();
         promise19Ties();
         promise19Reach();
         promise19Bad();
@@ -194,6 +195,18 @@ public final class PictureTest {
         Check.due("refused ones change nothing", b.digest(), before);
         Check.due("less itself", b.differ(1, 1), 4);
         Check.due("nothing", b.about(3, 2), 0);
+        SoundBoard c = heard(7);
+        c.point(-10, 44, -9, 0, 0);
+        c.look(0);
+        c.picture(1, -12, 37, 1, 1, 5, 9);
+        c.picture(2, -12, 37, 1, 1, 5, 9);
+        c.differ(0, 1);
+        for (int l = 0; l < 9; l++) {
+            for (int k = 0; k < 5; k++) {
+                Check.due("each pixel", c.pixel(2, k, l), c.pixel(0, k, l) - c.pixel(1, k, l));
+            }
+        }
+        Check.due("the last but one", c.pixel(2, 2, 7), 18);
     }
 
     private static void promise18DifferInAFullRing() {
@@ -257,6 +270,24 @@ public final class PictureTest {
         b.point(-10, third, 9, 0, 0);
         b.look(0);
         return b;
+    }
+
+    private static void promise19OddTurn() {
+        for (int sign = -1; sign <= 1; sign += 2) {
+            SoundBoard b = new SoundBoard();
+            b.probe(4, 0, 20);
+            b.point(0, 50, 9, 0, 0);
+            b.look(0);
+            b.clear();
+            b.point(-3 * sign, 50, 9, 0, 0);
+            b.look(0);
+            int[] later = {0, 1, 2, 2};
+            for (int i = 0; i < 4; i++) {
+                Check.due("way of " + i, b.delay(i, -3 * sign, 50) - b.delay(i, 0, 50), sign * later[i]);
+            }
+            // What is like itself 6 at 0, 4 at 1, 1 at 2 aside: 12 at 0, 18 at 1, 17 at 2.
+            Check.due("by one", b.turn(0, 1, 0, 50), sign);
+        }
     }
 
     private static void promise19Ties() {

@@ -79,6 +79,9 @@ public final class ProbeTest {
         Check.due("bad probe leaves the dead", b.count(1), 1);
         Check.due("probe", b.probe(2, -10, 20), 1);
         Check.due("alive again", b.count(1), 2);
+        Check.due("so it weighs", b.weight(1, 10, 0), 1);
+        Check.due("and may die", b.dead(1, true), 1);
+        b.dead(1, false);
         Check.due("points stay", b.count(2), 1);
         Check.due("looks go", b.count(3), 0);
         Check.due("pictures go", b.count(4), 0);

@@ -118,6 +118,7 @@ public final class RestTest {
         b.probe(3, -5, 6);
         b.point(3, 40, 17, -5, 9);
         b.point(-100, 90, -23, 1, 0);
+        b.point(1, 0, 5, 0, 0);
         b.look(2);
         b.dead(0, true);
         for (int n = 0; n < 6; n++) {
