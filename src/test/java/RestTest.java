@@ -181,5 +181,15 @@ public final class RestTest {
             h = 31 * h + v;
         }
         Check.due("digest by hand", b.digest(), h);
+        SoundBoard c = new SoundBoard();
+        c.point(-10, 5, 3, 0, 0);
+        c.look(0);
+        // d is 10 for element 0 and 5 and 21 for element 1: 132 as before, and 3 * 26 + 6 * 27 + 3 * 28.
+        long[] others = {2, 2, 1, 1, 0, 8, 1, -10, 5, 0, 132, 324};
+        h = 131;
+        for (long v : others) {
+            h = 31 * h + v;
+        }
+        Check.due("digest of two rows", c.digest(), h);
     }
 }
