@@ -287,6 +287,15 @@ public final class PictureTest {
             }
             // What is like itself 6 at 0, 4 at 1, 1 at 2 aside: 12 at 0, 18 at 1, 17 at 2.
             Check.due("by one", b.turn(0, 1, 0, 50), sign);
+            // 8 beyond d for the sender, 7 for the other one: of all this only that one's first sample is heard.
+            SoundBoard c = new SoundBoard();
+            c.probe(2, 0, 20);
+            c.point(1, 54, sign, 0, 0);
+            c.look(0);
+            c.look(0);
+            Check.due("the way of the sender", c.delay(0, 1, 54) - c.delay(0, 0, 50), 4);
+            Check.due("the way of the other one", c.delay(1, 1, 54) - c.delay(1, 0, 50), 3);
+            Check.due("its foot is most like the peak", c.turn(0, 1, 0, 50), 1);
         }
     }
 
