@@ -10,8 +10,14 @@ final class Check {
         asked++;
         if (got != want) {
             wrong++;
-            System.out.println(call + " answered " + got + ", due is " + want);
+            System.out.println(where() + call + " answered " + got + ", due is " + want);
         }
+    }
+
+    /** The test's function that asks, which names its promise. */
+    private static String where() {
+        return StackWalker.getInstance().walk(frames -> frames.map(StackWalker.StackFrame::getMethodName)
+            .filter(name -> name.startsWith("promise")).findFirst().map(name -> name + ": ").orElse(""));
     }
 
     static void holds(String what, boolean so) {
