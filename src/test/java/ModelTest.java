@@ -85,7 +85,8 @@ public final class ModelTest {
                 break;
             }
             case 1: {
-                a = new int[] {of(1, 5), of(1, 5)};
+                int most = below(4) == 0 ? 1000 : 5;
+                a = new int[] {of(1, most), of(1, most)};
                 due(at, "pace", a, board.pace(a[0], a[1]), model.pace(a[0], a[1]));
                 break;
             }

@@ -20,6 +20,7 @@ public final class ProbeEdgeTest {
         promise9TheSeventh();
         promise9TheCap();
         promise10TheEndsOfARow();
+        promise10NothingAheadOfARow();
         promise10RowsBeginWithNothing();
         promise10FarBeyondTheRow();
         Check.end("ProbeEdgeTest");
@@ -76,30 +77,42 @@ public final class ProbeEdgeTest {
 
     private static void promise2AllAnew() {
         SoundBoard b = new SoundBoard();
-        b.point(-10, 20, 1, 0, 1);
+        b.point(-10, 73, 1, 0, 1);
         b.dead(1, true);
+        b.pace(2, 4);
+        b.window(1, 5);
+        b.cap(777);
         for (int n = 0; n < 8; n++) {
             b.look(0);
             b.picture(1, 0, 0, 1, 1, n + 1, 1);
         }
+        // The last look heard the point at -10, 80, where line 0 of four lines has its second mean.
+        b.fan(5, 4, 2, 80);
         Check.due("promise 2: the same probe", b.probe(2, -10, 20), 1);
         Check.due("promise 2: alive", b.count(1), 2);
+        Check.due("promise 2: the dead one is alive", b.weight(1, 10, 0), 1);
+        Check.due("promise 2: and is so already", b.dead(1, false), NO);
         Check.due("promise 2: looks go", b.count(3), 0);
         Check.due("promise 2: looks go", b.sample(0, 0, 0), -1000000);
         Check.due("promise 2: looks go", b.mean(1, 0, 0), -1000000000);
         Check.due("promise 2: pictures go", b.count(4), 0);
         Check.due("promise 2: pictures go", b.about(0, 0), BAD);
         Check.due("promise 2: heat is 0", b.count(5), 0);
-        Check.due("promise 2: the scene is not named", b.pointAt(0, 1), 28);
+        Check.due("promise 2: the scene is not named", b.pointAt(0, 1), 81);
         Check.due("promise 2: looks ever are not named", b.count(6), 8);
+        Check.due("promise 2: window and F are not named", b.weight(0, -7, 15), 1);
+        Check.due("promise 2: window and F are not named", b.weight(0, -6, 15), 0);
+        Check.due("promise 2: the pace is not named", b.delay(0, -10, 7), 14);
+        Check.due("promise 2: the cap is not named", b.cap(56), 777);
+        Check.due("promise 2: the fan is not named", b.fanAt(0, 1), 2);
         // The rows of looks and the ring were in the middle of their way around; now both begin anew.
         for (int n = 1; n <= 7; n++) {
             Check.due("promise 2: looks begin anew", b.look(0), Math.min(n, 6));
-            Check.due("promise 2: what the newest heard", b.sample(Math.min(n, 6) - 1, 0, 2 * (27 + n)), 2);
+            Check.due("promise 2: what the newest heard", b.sample(Math.min(n, 6) - 1, 0, 4 * (80 + n)), 2);
             Check.due("promise 2: pictures begin anew", b.picture(1, 0, 0, 1, 1, 1, n), Math.min(n, 4));
             Check.due("promise 2: the first picture", b.about(0, 1), Math.max(1, n - 3));
         }
-        Check.due("promise 2: the oldest look is the second", b.sample(0, 0, 2 * 29), 2);
+        Check.due("promise 2: the oldest look is the second", b.sample(0, 0, 4 * 82), 2);
         Check.due("promise 2: heat begins anew", b.count(5), 7 * 8);
     }
 
@@ -368,6 +381,23 @@ public final class ProbeEdgeTest {
             Check.due("promise 10: sample 397", b.sample(0, 1, 397), o[1]);
             Check.due("promise 10: sample 398", b.sample(0, 1, 398), o[2]);
             Check.due("promise 10: sample 399", b.sample(0, 1, 399), o[3]);
+        }
+    }
+
+    /** What is ahead of a row's begin is nothing, and not the end of the row before it. */
+    private static void promise10NothingAheadOfARow() {
+        SoundBoard b = new SoundBoard();
+        b.probe(16, 0, 20);
+        for (int t = 0; t < 6; t++) {
+            b.clear();
+            b.point(20 * t, 0, 100, 0, 0);
+            b.look(t);
+            Check.due("promise 10: d is 0", b.sample(t, t, 0), 200);
+        }
+        for (int look = 0; look < 6; look++) {
+            for (int i = 0; i < 16; i++) {
+                Check.due("promise 10: nothing at the end of row " + i, b.sample(look, i, 399), 0);
+            }
         }
     }
 

@@ -24,6 +24,8 @@ public final class SumEdgeTest {
         promise19TurnedTillEight();
         promise19TheLeastBySize();
         promise19BeyondTheRow();
+        promise19BesideTheRow();
+        promise19AllElements();
         promise19OneSender();
         Check.end("SumEdgeTest");
     }
@@ -405,6 +407,43 @@ public final class SumEdgeTest {
         for (int[] place : beyond) {
             Check.due("promise 19: beyond them", looksAt(9, 9).turn(0, 1, place[0], place[1]), -100);
         }
+    }
+
+    /** Ahead of a row is nothing, and not the end of the row before it; behind it not the begin of the next. */
+    private static void promise19BesideTheRow() {
+        SoundBoard b = new SoundBoard();
+        b.probe(2, 0, 20);
+        int[] zs = {199, 197, 1, 3};
+        for (int z : zs) {
+            b.point(20, z, 9, 0, 0);
+            b.look(1);
+            b.clear();
+        }
+        // Of looks 0 and 1 only the ends of both rows hold something: at 20, 0 row 1 begins, row 0 is at 20.
+        Check.holds("promise 19: an end that is heard", b.sample(0, 0, 399) != 0 && b.sample(1, 0, 395) != 0);
+        Check.due("promise 19: ahead of row 1", b.turn(0, 1, 20, 0), 0);
+        // Of looks 2 and 3 row 1 has its begin alone, row 0 what is at 20 and on: at 20, 195 both rows end.
+        Check.holds("promise 19: a begin that is heard", b.sample(2, 1, 1) != 0 && b.sample(3, 1, 5) != 0);
+        Check.due("promise 19: behind row 0", b.turn(2, 3, 20, 199), 0);
+    }
+
+    /** All elements: also those that have died since, with what their rows hold, and without weights. */
+    private static void promise19AllElements() {
+        SoundBoard b = new SoundBoard();
+        b.probe(3, -10, 500);
+        b.dead(1, true);
+        b.dead(2, true);
+        b.point(-10, 50, 9, 0, 3);
+        b.look(0);
+        b.look(0);
+        b.dead(1, false);
+        b.dead(0, true);
+        Check.due("promise 19: by the row of a dead one", b.turn(0, 1, -10, 50), 6);
+        Check.due("promise 13: which has no weight", b.sum(0, -10, 50), 0);
+        b.window(1, 9);
+        b.dead(0, false);
+        Check.due("promise 19: by the row of one without weight", b.turn(0, 1, -3, 50), 6);
+        Check.due("promise 13: which is 0", b.weight(0, -3, 50), 0);
     }
 
     private static void promise19OneSender() {
