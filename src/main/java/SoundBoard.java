@@ -304,11 +304,11 @@ public final class SoundBoard {
         int best = 0;
         int greatest = likeness(look, other, 0);
         for (int size = 1; size <= MOST_TURN; size++) {
-            for (int s = -size; s <= size; s += 2 * size) {
-                int found = likeness(look, other, s);
+            for (int side = -1; side <= 1; side += 2) {
+                int found = likeness(look, other, side * size);
                 if (found > greatest) {
                     greatest = found;
-                    best = s;
+                    best = side * size;
                 }
             }
         }
@@ -645,6 +645,7 @@ public final class SoundBoard {
             return size - 1;
         }
 
+        /** A place in senders whatever is asked: floorMod by their number answers no other. */
         int slotOf(int look) {
             return Math.floorMod(oldest + look, MOST);
         }
@@ -726,6 +727,7 @@ public final class SoundBoard {
             return slot;
         }
 
+        /** A place in widths and heights whatever is asked: floorMod by their number answers no other. */
         int slotOf(int p) {
             return Math.floorMod(oldest + p, MOST);
         }

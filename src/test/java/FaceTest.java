@@ -43,12 +43,22 @@ public final class FaceTest {
             Check.holds(field.getName(), isPublic ? Modifier.isPublic(modifiers) : Modifier.isPrivate(modifiers));
             Check.holds(field.getName() + " is final", !Modifier.isStatic(modifiers) || Modifier.isFinal(modifiers));
         }
+        fewFields(face);
         for (Class<?> inside : face.getDeclaredClasses()) {
+            fewFields(inside);
             int modifiers = inside.getModifiers();
             Check.holds(inside.getName() + " is static", Modifier.isStatic(modifiers));
             Check.holds(inside.getName() + " is not public", !Modifier.isPublic(modifiers) && !Modifier.isProtected(modifiers));
         }
         Check.holds("at most twelve classes", face.getDeclaredClasses().length <= 11);
+    }
+
+    private static void fewFields(Class<?> one) {
+        int fields = 0;
+        for (Field field : one.getDeclaredFields()) {
+            fields += Modifier.isStatic(field.getModifiers()) ? 0 : 1;
+        }
+        Check.holds(one.getName() + " has at most twenty fields", fields <= 20);
     }
 
     private static void methods() {
