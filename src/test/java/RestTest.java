@@ -7,6 +7,7 @@ public final class RestTest {
         promise26Count();
         promise27Digest();
         promise27ByHand();
+        promise27AllRows();
         Check.end("RestTest");
     }
 
@@ -191,5 +192,37 @@ public final class RestTest {
             h = 31 * h + v;
         }
         Check.due("digest of two rows", c.digest(), h);
+    }
+
+    /** As many rows as there may be: each one of each look counts, the last one of the last look too. */
+    private static void promise27AllRows() {
+        SoundBoard b = new SoundBoard();
+        b.probe(16, -8, 1);
+        b.point(0, 50, 100, 0, 3);
+        for (int n = 1; n <= 7; n++) {
+            b.dead(15, true);
+            b.look(1);
+            b.dead(15, false);
+            b.look(1);
+            Check.due("digest of " + b.count(3) + " looks of 16 rows", b.digest(), digestOf(b));
+        }
+        // Looks of one point at -8, 0: element i's d is i, and i + 2 (i + 1) + (i + 2) is 4 i + 4; what is before the
+        // row for i 0 would have counted 0 times.
+        SoundBoard c = new SoundBoard();
+        c.probe(16, -8, 1);
+        c.point(-8, 0, 5, 0, 0);
+        long h = 131;
+        long[] counts = {16, 16, 1, 6, 0, 6 * 16 * 16 * 16, 6, -8, 0};
+        for (long v : counts) {
+            h = 31 * h + v;
+        }
+        for (int look = 0; look < 6; look++) {
+            c.look(0);
+            h = 31 * h;
+            for (int i = 0; i < 16; i++) {
+                h = 31 * h + 5 * (4 * i + 4);
+            }
+        }
+        Check.due("digest of all rows by hand", c.digest(), h);
     }
 }
